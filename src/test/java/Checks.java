@@ -46,8 +46,16 @@ final class Checks {
             call.accept(x);
             return "nothing";
         } catch (RuntimeException e) {
-            return e.getClass().getSimpleName();
+            return nameOf(e);
         }
+    }
+
+    /** One that the class did not throw itself, but the library or the machine in it, is named as such. */
+    static String nameOf(Throwable e) {
+        StackTraceElement[] trace = e.getStackTrace();
+        String by = trace.length == 0 ? "" : trace[0].getClassName();
+        boolean own = by.equals("Platehall") || by.startsWith("Platehall$") || by.equals("Model");
+        return e.getClass().getSimpleName() + (own ? "" : " by " + by);
     }
 
     static void typeAll(Platehall x, String signs) {
@@ -124,7 +132,7 @@ final class Checks {
         try {
             return String.valueOf(call.get());
         } catch (RuntimeException e) {
-            return e.getClass().getSimpleName();
+            return nameOf(e);
         }
     }
 
