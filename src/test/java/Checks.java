@@ -123,8 +123,8 @@ final class Checks {
                 all.append(' ').append(answer(() -> x.on(vehicle, asked, part)));
             }
         }
-        all.append(' ').append(answer(() -> x.plate(vehicle, 0, 3)));
-        all.append(' ').append(answer(() -> x.plate(vehicle, 10, 3)));
+        all.append(' ').append(answer(() -> (int) x.plate(vehicle, 0, 3)));
+        all.append(' ').append(answer(() -> (int) x.plate(vehicle, 10, 3)));
         all.append(" until ").append(answer(() -> x.insure(vehicle, 20000) ? 1 : 0));
     }
 
