@@ -1,7 +1,7 @@
 import java.util.function.Consumer;
 import java.util.function.Supplier;
 
-/** What the tests share: checks that count what is wrong, and a view of all that an object answers. */
+/** What the tests share: checks that count what is wrong. */
 final class Checks {
     static final Class<? extends RuntimeException> INDEX = IndexOutOfBoundsException.class;
     static final Class<? extends RuntimeException> ARGUMENT = IllegalArgumentException.class;
@@ -9,15 +9,20 @@ final class Checks {
 
     private static int wrong = 0;
     private static int made = 0;
+    private static String heading = "";
 
     private Checks() {
+    }
+
+    private static void tellWrong(String what) {
+        wrong++;
+        System.out.println((heading.isEmpty() ? "" : heading + "\n  ") + what);
     }
 
     static void due(String call, long got, long want) {
         made++;
         if (got != want) {
-            wrong++;
-            System.out.println(call + " answered " + got + ", due is " + want);
+            tellWrong(call + " answered " + got + ", due is " + want);
         }
     }
 
@@ -28,17 +33,24 @@ final class Checks {
     static void due(String call, String got, String want) {
         made++;
         if (!got.equals(want)) {
-            wrong++;
-            System.out.println(call + " answered\n  " + got + "\ndue is\n  " + want);
+            tellWrong(call + " answered\n  " + got + "\ndue is\n  " + want);
         }
+    }
+
+    /** The words of the document, below "Terms", that the checks behind it are of; SentencesTest finds them here. */
+    static void says(String sentence) {
+        heading = sentence;
+    }
+
+    /** The same, of a promise: what it is, one of its arguments, what it returns or throws. */
+    static void promise(int number, String line) {
+        heading = "Promise " + number + ": " + line;
     }
 
     /** That the call throws just this, and that the object answers as one made alike that was not called. */
     static void refuses(String call, Class<? extends RuntimeException> due, Supplier<Platehall> make,
             Consumer<Platehall> bad) {
-        Platehall called = make.get();
-        due(call, thrown(called, bad), due.getSimpleName());
-        due(call + " changes nothing", view(called), view(make.get()));
+        new Made(make).refuses(call, due, bad);
     }
 
     static String thrown(Platehall x, Consumer<Platehall> call) {
@@ -64,6 +76,21 @@ final class Checks {
         }
     }
 
+    static int sightOf(Platehall x, String signs, int place, int minute) {
+        typeAll(x, signs);
+        return x.sight(place, minute);
+    }
+
+    static int wishOf(Platehall x, String signs, int vehicle) {
+        typeAll(x, signs);
+        return x.wish(vehicle);
+    }
+
+    static int lookOf(Platehall x, String who, int vehicle) {
+        typeAll(x, who);
+        return x.look(vehicle);
+    }
+
     /** A plate as its signs, as place by place. */
     static String plateOf(Platehall x, int vehicle, int day) {
         StringBuilder signs = new StringBuilder();
@@ -80,70 +107,12 @@ final class Checks {
         }
     }
 
-    /** All that can be asked, and what the next calls answer; it changes the object, which is not used behind it. */
-    static String view(Platehall x) {
-        StringBuilder all = new StringBuilder();
-        all.append("signs ").append(x.clear());
-        int people = count(x, n -> x.looked(n));
-        int vehicles = count(x, n -> x.owes(n));
-        int sightings = count(x, n -> x.seen(n));
-        int fines = count(x, n -> x.whose(n));
-        for (int i = 0; i < people; i++) {
-            all.append("\n person ").append(x.fines(i)).append(' ').append(x.looked(i));
-            all.append(' ').append(x.protect(i, false));
-        }
-        for (int i = 0; i < sightings; i++) {
-            all.append(i == 0 ? "\n seen " : " ").append(x.seen(i));
-        }
-        for (int i = 0; i < fines; i++) {
-            all.append(i == 0 ? "\n whose " : " ").append(x.whose(i));
-        }
-        for (int i = 0; i < vehicles; i++) {
-            viewVehicle(x, i, all);
-        }
-        all.append("\n rates ").append(answer(() -> x.rate(0, 20000, 0)));
-        all.append(" people ").append(answer(() -> x.person()));
-        all.append(" vehicles ").append(answer(() -> x.vehicle(9990, 0, 0)));
-        for (int i = 0; i < 3; i++) {
-            all.append(" next ").append(answer(() -> x.allot(0)));
-        }
-        all.append(" day ").append(answer(() -> x.pass(1)));
-        return all.toString();
-    }
-
-    private static void viewVehicle(Platehall x, int vehicle, StringBuilder all) {
-        all.append("\n vehicle ").append(x.owes(vehicle));
-        for (int what = 0; what < 5; what++) {
-            all.append(' ').append(x.ofVehicle(vehicle, what));
-        }
-        for (int day = 0; day <= 60; day += 10) {
-            int asked = day;
-            for (int what = 0; what < 4; what++) {
-                int part = what;
-                all.append(' ').append(answer(() -> x.on(vehicle, asked, part)));
-            }
-        }
-        all.append(' ').append(answer(() -> (int) x.plate(vehicle, 0, 3)));
-        all.append(' ').append(answer(() -> (int) x.plate(vehicle, 10, 3)));
-        all.append(" until ").append(answer(() -> x.insure(vehicle, 20000) ? 1 : 0));
-    }
-
     static String answer(Supplier<? extends Object> call) {
         try {
             return String.valueOf(call.get());
         } catch (RuntimeException e) {
             return nameOf(e);
         }
-    }
-
-    private static int count(Platehall x, Consumer<Integer> ask) {
-        for (int n = 0; n < 1000; n++) {
-            int number = n;
-            if (!thrown(x, same -> ask.accept(number)).equals("nothing")) {
-                return n;
-            }
-        }
-        return 1000;
     }
 
     static void end() {

@@ -30,6 +30,9 @@ public final class FaceTest {
         Checks.due("no class above it", face.getSuperclass() == Object.class, true);
         Checks.due("constructors", constructors(face), "[]");
         Checks.due("methods", methods(face), new TreeSet<String>(Set.of(METHODS)).toString());
+        Checks.says("NONE = -1: There is none.");
+        Checks.says("KEEPER = 0, OWNER = 1, ON = 2, OFF = 3, STOLEN = 4, FOUND = 5, SCRAPPED = 6, CLASS = 7: Events.");
+        Checks.says("UNKNOWN = 0, ROAD = 1, GARAGE = 2, MISSING = 3, GONE = 4: States.");
         Checks.due("constants", constants(face), new TreeSet<String>(Set.of(CONSTANTS)).toString());
         for (Class<?> inside : face.getDeclaredClasses()) {
             boolean hidden = !Modifier.isPublic(inside.getModifiers()) && !Modifier.isProtected(inside.getModifiers());
