@@ -4,8 +4,8 @@ import java.util.function.Consumer;
 
 /** The bounds that the document names of the buffer: Terms, and promises 2 and 3. */
 public final class BufferBoundsTest {
-    private static final String BUFFER = "The buffer has at most 8 signs; it is taken, and empty then, by what uses it; "
-            + "an exception leaves it.";
+    private static final String BUFFER = "The buffer has at most 8 signs; it is taken, and empty then, by what uses "
+            + "it; an exception leaves it.";
     private static final char[] SIGNS = {0, 1, ' ', 'A', 'z', '?', 127, 128, 255, 256, 32767, 32768, 65535};
 
     public static void main(String[] args) {

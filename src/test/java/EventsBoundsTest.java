@@ -2,6 +2,10 @@
 public final class EventsBoundsTest {
     private static final int STATE = 0, KEPT_BY = 1, OWNED_BY = 2, CLASS_OF_TAX = 3;
     private static final int BUILT = 10, TODAY = 50;
+    private static final String STATES = "Its state is UNKNOWN without any of ON, OFF, STOLEN, FOUND and SCRAPPED; "
+            + "ROAD behind ON, GARAGE behind OFF, MISSING behind STOLEN, GONE behind SCRAPPED, whatever comes behind "
+            + "that; behind FOUND, if it is MISSING, what it was ahead of the STOLEN that made it so; otherwise FOUND "
+            + "changes nothing.";
     private static final int[] FAR = {Integer.MIN_VALUE, Integer.MAX_VALUE};
 
     /** Day 50; a vehicle built on day 10, of class 2, another one of the first day; two people. */
@@ -240,9 +244,7 @@ public final class EventsBoundsTest {
     }
 
     private static void statesBehind() {
-        Checks.says("Its state is UNKNOWN without any of ON, OFF, STOLEN, FOUND and SCRAPPED; ROAD behind ON, GARAGE "
-                + "behind OFF, MISSING behind STOLEN, GONE behind SCRAPPED, whatever comes behind that; behind FOUND, "
-                + "if it is MISSING, what it was ahead of the STOLEN that made it so; otherwise FOUND changes nothing.");
+        Checks.says(STATES);
         Platehall x = some();
         is(x, 0, STATE, Platehall.UNKNOWN);
         is(x, TODAY, STATE, Platehall.UNKNOWN);
@@ -262,6 +264,7 @@ public final class EventsBoundsTest {
     }
 
     private static void foundAndMissing() {
+        Checks.says(STATES);
         int on = Platehall.ON, off = Platehall.OFF, stolen = Platehall.STOLEN, found = Platehall.FOUND;
         int unknown = Platehall.UNKNOWN, road = Platehall.ROAD, garage = Platehall.GARAGE, missing = Platehall.MISSING;
         run(new int[] {stolen, found}, new int[] {missing, unknown});
@@ -300,9 +303,7 @@ public final class EventsBoundsTest {
     }
 
     private static void goneForGood() {
-        Checks.says("Its state is UNKNOWN without any of ON, OFF, STOLEN, FOUND and SCRAPPED; ROAD behind ON, GARAGE "
-                + "behind OFF, MISSING behind STOLEN, GONE behind SCRAPPED, whatever comes behind that; behind FOUND, "
-                + "if it is MISSING, what it was ahead of the STOLEN that made it so; otherwise FOUND changes nothing.");
+        Checks.says(STATES);
         for (int kind = Platehall.ON; kind <= Platehall.SCRAPPED; kind++) {
             int gone = Platehall.GONE;
             run(new int[] {Platehall.SCRAPPED, kind, Platehall.ON}, new int[] {gone, gone, gone});

@@ -162,7 +162,8 @@ public final class OrderTest {
                 return first(false, !good, a[0] == 1 || made == FULL);
             }, (x, a) -> x.vehicle(a[0], a[1], a[2]), serials, days, classes);
             all("stamped", made, a -> first(false, a[0] != 15 && a[0] != 0 && a[0] != 99995, false),
-                    (x, a) -> x.stamped(a[0]), Arrays.asList(LEAST, -1, 0, 1, 14, 15, 16, 20, 30, 99995, 99999, 100000));
+                    (x, a) -> x.stamped(a[0]),
+                    Arrays.asList(LEAST, -1, 0, 1, 14, 15, 16, 20, 30, 99995, 99999, 100000));
         }
     }
 

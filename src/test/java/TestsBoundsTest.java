@@ -54,7 +54,8 @@ public final class TestsBoundsTest {
         SOME.refuses("ahead of day 0", Checks.ARGUMENT, x -> x.test(1, -1, DANGEROUS, 0));
         Platehall x = some();
         x.test(0, 80, GOOD, 0);
-        Checks.due("ahead of the latest one", Checks.thrown(x, p -> p.test(0, 79, GOOD, 0)), "IllegalArgumentException");
+        Checks.due("ahead of the latest one", Checks.thrown(x, p -> p.test(0, 79, GOOD, 0)),
+                "IllegalArgumentException");
         Checks.due("on its day", x.test(0, 80, DANGEROUS, 0), 80);
         Checks.due("the day behind it", x.test(0, 81, DANGEROUS, 0), 80);
         Checks.due("ahead of that", Checks.thrown(x, p -> p.test(0, 80, GOOD, 0)), "IllegalArgumentException");
