@@ -153,28 +153,42 @@ public final class Model {
         return later;
     }
 
+    /** State, keeper, owner and class behind all events up to a day. */
     private static int standing(Car car, int upTo, int what) {
-        int state = 0;
+        return standings(car, upTo)[upTo][what];
+    }
+
+    /** The same of each day up to one. */
+    private static int[][] standings(Car car, int upTo) {
+        List<Told> inOrder = new ArrayList<>(car.told);
+        inOrder.sort((a, b) -> a.day - b.day);
+        int[][] all = new int[upTo + 1][];
+        int[] now = {0, NONE, NONE, car.its};
         int ahead = 0;
-        int[] rest = {0, NONE, NONE, car.its};
+        int next = 0;
         for (int day = 0; day <= upTo; day++) {
-            for (Told told : car.told) {
-                if (told.day != day) {
-                    continue;
-                }
-                switch (told.kind) {
-                    case 0: rest[1] = told.what; break;
-                    case 1: rest[2] = told.what; break;
-                    case 7: rest[3] = told.what; break;
-                    case 6: state = 4; break;
-                    case 5: state = state == 3 ? ahead : state; break;
-                    case 4: ahead = state < 3 ? state : ahead; state = Math.max(state, 3); break;
-                    default: state = state >= 3 ? state : told.kind - 1; break;
-                }
+            for (; next < inOrder.size() && inOrder.get(next).day == day; next++) {
+                ahead = now[0] < 3 ? now[0] : ahead;
+                now = behind(now, ahead, inOrder.get(next));
             }
+            all[day] = now;
         }
-        rest[0] = state;
-        return rest[what];
+        return all;
+    }
+
+    /** Ahead of a theft, it was as told. */
+    private static int[] behind(int[] was, int ahead, Told told) {
+        int[] now = was.clone();
+        switch (told.kind) {
+            case 0: now[1] = told.what; break;
+            case 1: now[2] = told.what; break;
+            case 7: now[3] = told.what; break;
+            case 6: now[0] = 4; break;
+            case 5: now[0] = was[0] == 3 ? ahead : was[0]; break;
+            case 4: now[0] = Math.max(was[0], 3); break;
+            default: now[0] = was[0] >= 3 ? was[0] : told.kind - 1; break;
+        }
+        return now;
     }
 
     public int on(int vehicle, int day, int what) {
@@ -197,7 +211,7 @@ public final class Model {
         return was;
     }
 
-    private static String signs(int plate) {
+    static String signs(int plate) {
         char first = (char) ('A' + plate / 2600);
         char second = (char) ('A' + plate % 2600 / 100);
         return "" + first + second + String.format("%02d", plate % 100);
@@ -265,14 +279,13 @@ public final class Model {
     }
 
     private int rateOn(int its, int day) {
-        for (int from = day; from >= 0; from--) {
-            for (int i = rates.size() - 1; i >= 0; i--) {
-                if (rates.get(i).its == its && rates.get(i).from == from) {
-                    return rates.get(i).rate;
-                }
+        Rate latest = new Rate(its, -1, 0);
+        for (Rate told : rates) {
+            if (told.its == its && told.from <= day && told.from >= latest.from) {
+                latest = told;
             }
         }
-        return 0;
+        return latest.rate;
     }
 
     public long pay(int vehicle, int amount) {
@@ -284,10 +297,11 @@ public final class Model {
 
     public long owes(int vehicle) {
         Car car = car(vehicle);
+        int[][] by = standings(car, today);
         long tax = -car.paid;
         for (int day = 0; day <= today; day += 30) {
-            if (standing(car, day, 0) == 1) {
-                tax += rateOn(standing(car, day, 3), day);
+            if (by[day][0] == 1) {
+                tax += rateOn(by[day][3], day);
             }
         }
         return tax;
@@ -334,9 +348,10 @@ public final class Model {
     }
 
     private int gap(Car car) {
+        int[][] by = standings(car, today);
         int gap = 0;
         for (int day = 0; day <= today; day++) {
-            gap += !car.insured[day] && standing(car, day, 0) == 1 ? 1 : 0;
+            gap += !car.insured[day] && by[day][0] == 1 ? 1 : 0;
         }
         return gap;
     }

@@ -1,11 +1,17 @@
 import java.lang.reflect.InvocationTargetException;
 import java.lang.reflect.Method;
+import java.util.ArrayList;
+import java.util.Arrays;
 import java.util.HashMap;
+import java.util.List;
 import java.util.Map;
 
-/** All promises: runs of calls, the same ones each time, are answered by the class as by the model. */
+/**
+ * All promises: runs of calls, the same ones each time, are answered by the class as by the model. Most runs are of one
+ * theme, as what several calls must bring about together comes too seldom among all of them.
+ */
 public final class ModelTest {
-    private static final int RUNS = 1500;
+    private static final int RUNS = 2400;
     private static final int CALLS = 512;
     private static final int[] SERIALS = {0, 1, 10, 100, 1000, 9999, 1234, 11, 12, 13, 14, 15, 16, 17, 2, 5000};
     private static final int[] WILD = {-1, -2, 40, 12, 10, 9999, 20000, 20001, Integer.MIN_VALUE, Integer.MAX_VALUE};
@@ -13,7 +19,26 @@ public final class ModelTest {
     private static final Map<String, Method> OF_CLASS = methods(Platehall.class);
     private static final Map<String, Method> OF_MODEL = methods(Model.class);
 
+    private enum Step {
+        VEHICLE, STAMPED, PERSON, TELL, ON, ANEW, BAR, ALLOT, WISH, PLATE, RATE, TAX, TEST, INSURE, OF_VEHICLE, SIGHT,
+        SEEN, FINE, NAME, WHOSE, LOOK, PASS
+    }
+
+    private static final String[] THEMES = {
+        "VEHICLE STAMPED PERSON TELL TELL TELL ON ANEW BAR ALLOT WISH PLATE RATE TAX TEST INSURE OF_VEHICLE "
+                + "SIGHT SIGHT SEEN FINE NAME WHOSE LOOK PASS",
+        "TELL TELL ON ON ANEW ANEW PASS",
+        "BAR ALLOT WISH WISH WISH PLATE SIGHT SEEN PASS",
+        "TELL TELL RATE TAX TAX INSURE INSURE OF_VEHICLE OF_VEHICLE PASS PASS",
+        "VEHICLE TEST TEST OF_VEHICLE OF_VEHICLE PASS",
+        "TELL ALLOT SIGHT SIGHT SIGHT SEEN OF_VEHICLE OF_VEHICLE OF_VEHICLE PASS",
+        "TELL TELL ALLOT SIGHT SIGHT FINE FINE NAME NAME NAME NAME WHOSE WHOSE PASS",
+        "PERSON TELL TELL LOOK LOOK LOOK LOOK PASS",
+    };
+
     private final int run;
+    private final Step[] steps;
+    private final List<String> plates = new ArrayList<>();
     private final StringBuilder log = new StringBuilder();
     private final Platehall x = new Platehall();
     private final Model model = new Model();
@@ -30,6 +55,7 @@ public final class ModelTest {
         this.run = run;
         seed = run * 7919L + 17;
         longestPass = new int[] {1, 5, 20, 40, 100, 400}[run % 6];
+        steps = stepsOf(THEMES[run / 6 % THEMES.length]);
     }
 
     public static void main(String[] args) {
@@ -43,6 +69,10 @@ public final class ModelTest {
         Checks.end();
     }
 
+    private static Step[] stepsOf(String theme) {
+        return Arrays.stream(theme.split(" ")).map(name -> Step.valueOf(name)).toArray(size -> new Step[size]);
+    }
+
     private static Map<String, Method> methods(Class<?> of) {
         Map<String, Method> all = new HashMap<>();
         for (Method method : of.getMethods()) {
@@ -52,47 +82,60 @@ public final class ModelTest {
     }
 
     private String goes() {
-        for (int i = below(4); i >= 0; i--) {
-            both("vehicle", SERIALS[i], 0, below(4));
-            both("person");
+        String wrong = null;
+        for (int i = below(4); i >= 0 && wrong == null; i--) {
+            wrong = both("vehicle", SERIALS[i], 0, below(4));
         }
-        while (calls < CALLS) {
-            String wrong = step();
-            if (wrong != null) {
-                return wrong + "\nbehind\n" + log;
-            }
+        for (int i = below(4); i >= 0 && wrong == null; i--) {
+            wrong = both("person");
         }
-        return "as due";
+        while (calls < CALLS && wrong == null) {
+            wrong = step();
+        }
+        return wrong == null ? "as due" : wrong + "\nbehind\n" + log;
     }
 
     private String step() {
-        switch (below(24)) {
-            case 0: return both("vehicle", SERIALS[below(SERIALS.length)], day(), of(4));
-            case 1: return both("stamped", below(2) == 0 ? below(100) * 10 + below(10) : of(100001));
-            case 2: return below(3) == 0 ? both("person") : both("protect", of(people), below(2) == 0);
-            case 3: case 4: case 5: return tell();
-            case 6: return both("on", of(vehicles), day(), of(4));
-            case 7: return both("onAnew", of(vehicles), day(), of(4));
-            case 8: return both("bar", letter(), letter(), below(3) > 0);
-            case 9: return both("allot", of(vehicles));
-            case 10: return spell(plateSigns(), "wish", of(vehicles));
-            case 11: return both("plate", of(vehicles), day(), of(4));
-            case 12: return both("rate", of(4), below(3) > 0 ? day() / 30 * 30 : of(20001), of(100001));
-            case 13: return below(2) == 0 ? both("pay", of(vehicles), of(1000001)) : both("owes", of(vehicles));
-            case 14: return both("test", of(vehicles), today - below(longestPass + 1), of(3), below(4) * 100);
-            case 15: return both("insure", of(vehicles), below(4) == 0 ? -1 : today + below(60) - 2);
-            case 16: return both("ofVehicle", of(vehicles), of(5));
-            case 17: case 18: return spell(plateSigns(), "sight", of(10), below(3) > 0 ? below(120) : of(1440));
-            case 19: return below(4) > 0 ? both("seen", of(sightings)) : both("whose", of(fines));
-            case 20: return both("fine", of(sightings), of(100001));
-            case 21: return below(3) > 0 ? both("name", of(fines), of(people)) : both("fines", of(people));
-            case 22: return look();
-            default: return both("pass", below(9) == 0 ? of(402) : 1 + below(longestPass));
+        switch (steps[below(steps.length)]) {
+            case VEHICLE: return both("vehicle", SERIALS[below(SERIALS.length)], day(), of(4));
+            case STAMPED: return both("stamped", stampedOf(SERIALS[below(SERIALS.length)]));
+            case PERSON: return below(3) == 0 ? both("person") : both("protect", of(people), below(2) == 0);
+            case TELL: return tell();
+            case ON: return both("on", of(vehicles), day(), of(4));
+            case ANEW: return both("onAnew", of(vehicles), day(), of(4));
+            case BAR: return both("bar", letter(), letter(), below(3) > 0);
+            case ALLOT: return both("allot", of(vehicles));
+            case WISH: return spell(wished(), "wish", of(vehicles));
+            case PLATE: return both("plate", of(vehicles), day(), of(4));
+            case RATE: return both("rate", of(4), below(3) > 0 ? day() / 30 * 30 : of(20001), of(100001));
+            case TAX: return below(3) == 0 ? both("pay", of(vehicles), of(1000001)) : both("owes", of(vehicles));
+            case TEST: return both("test", of(vehicles), below(3) > 0 ? today : day(), of(3), below(4) * 100);
+            case INSURE: return both("insure", of(vehicles), below(4) == 0 ? -1 : today + below(60) - 2);
+            case OF_VEHICLE: return both("ofVehicle", of(vehicles), below(2) == 0 ? of(5) : 3 + below(2));
+            case SIGHT: return spell(sighted(), "sight", of(10), below(3) > 0 ? below(120) : of(1440));
+            case SEEN: return both("seen", of(sightings));
+            case FINE: return both("fine", of(sightings), of(100001));
+            case NAME: return both("name", of(fines), of(people));
+            case WHOSE: return below(2) == 0 ? both("whose", of(fines)) : both("fines", of(people));
+            case LOOK: return look();
+            default: return both("pass", below(9) == 0 ? of(402) : toLastDay(1 + below(longestPass)));
         }
+    }
+
+    /** Those days; but now and then just as many as are left, if they are few. */
+    private int toLastDay(int days) {
+        return today > 19600 && below(2) == 0 ? 20000 - today : days;
+    }
+
+    private int stampedOf(int serial) {
+        return below(2) == 0 ? of(100001) : serial * 10 + below(10);
     }
 
     private String tell() {
         int kind = of(8);
+        if (kind == Platehall.SCRAPPED && below(8) > 0) {
+            kind = below(2);
+        }
         int what = kind == 0 || kind == 1 ? of(people) : kind == 7 ? of(4) : below(20) == 0 ? 1 : 0;
         return both("tell", of(vehicles), kind, what, day());
     }
@@ -105,16 +148,34 @@ public final class ModelTest {
         return spell(who[below(who.length)], "look", of(vehicles));
     }
 
-    private String plateSigns() {
+    /** Now and then a plate that was allotted, or no plate. */
+    private String wished() {
         StringBuilder signs = new StringBuilder();
-        signs.append(below(6) == 0 ? '?' : (char) letter());
-        signs.append(below(6) == 0 ? '?' : (char) letter());
-        signs.append(below(4) == 0 ? '?' : (char) ('0' + below(2)));
-        signs.append(below(4) == 0 ? '?' : (char) ('0' + below(10)));
-        if (below(15) == 0) {
-            signs.setCharAt(below(4), (char) below(300));
+        signs.append(letter()).append(letter()).append(below(2)).append(below(10));
+        return below(6) == 0 ? doubtful(allotted()) : below(8) == 0 ? spoilt(signs) : signs.toString();
+    }
+
+    private String sighted() {
+        StringBuilder signs = new StringBuilder(doubtful(allotted()));
+        return below(20) == 0 ? spoilt(signs) : signs.toString();
+    }
+
+    private String allotted() {
+        return plates.isEmpty() || below(10) == 0 ? "AA0" + below(10) : plates.get(below(plates.size()));
+    }
+
+    private String doubtful(String plate) {
+        StringBuilder signs = new StringBuilder();
+        for (int i = 0; i < plate.length(); i++) {
+            signs.append(below(5) == 0 ? '?' : plate.charAt(i));
         }
-        if (below(15) == 0) {
+        return signs.toString();
+    }
+
+    private String spoilt(StringBuilder signs) {
+        if (below(2) == 0) {
+            signs.setCharAt(below(4), (char) below(300));
+        } else {
             signs.setLength(below(4));
         }
         return signs.toString();
@@ -128,7 +189,8 @@ public final class ModelTest {
         if (wrong == null) {
             wrong = both(name, arguments);
         }
-        if (wrong == null && below(3) > 0) {
+        // what was refused is still in the buffer
+        if (wrong == null && below(4) > 0) {
             wrong = both("clear");
         }
         return wrong;
@@ -163,6 +225,7 @@ public final class ModelTest {
             case "sight": sightings++; break;
             case "fine": fines++; break;
             case "pass": today = Integer.parseInt(answer); break;
+            case "allot": case "wish": plates.add(Model.signs(Integer.parseInt(answer))); break;
             default: break;
         }
     }
